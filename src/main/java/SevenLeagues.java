@@ -758,7 +758,7 @@ public final class SevenLeagues {
         }
 
         private long at(int row, int column) {
-            return within(column, 0, columns - 1) ? bit(row * columns + column) : 0;
+            return column >= 0 && column < columns ? 1L << row * columns + column : 0;
         }
 
         long fitting() {
