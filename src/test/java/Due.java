@@ -1,5 +1,13 @@
+import java.lang.reflect.InvocationTargetException;
+import java.lang.reflect.Method;
+import java.lang.reflect.Modifier;
+
 /** What the tests share: rows of answers that are due, counted, and the exit code. */
 final class Due {
+    static final int UNKNOWN = -1, OUTSIDE = -2, STATE = -3, FULL = -4, NO = -5, NONE = -6;
+    static final long GONE = -1000000000000000000L;
+    static final int LOW = Integer.MIN_VALUE, HIGH = Integer.MAX_VALUE;
+
     private final String name;
     private int asked;
     private int wrong;
@@ -18,6 +26,54 @@ final class Due {
 
     void holds(String what, boolean so) {
         is(what, so ? 1 : 0, 1);
+    }
+
+    /** Asks one call of the face by its name; a truth is told as 1 or 0. */
+    void call(SevenLeagues x, String why, long want, String name, long... values) {
+        is(why + ": " + row(name, values), answer(x, name, values), want);
+    }
+
+    /** The same call is refused; GONE goes with the refusal, if its answer is long. */
+    void refused(SevenLeagues x, String why, int refusal, String name, long... values) {
+        boolean isLong = method(name).getReturnType() == long.class;
+        call(x, why, isLong ? GONE + refusal : refusal, name, values);
+    }
+
+    static String row(String name, long... values) {
+        StringBuilder row = new StringBuilder(name).append('(');
+        for (int i = 0; i < values.length; i++) {
+            row.append(i > 0 ? ", " : "").append(values[i]);
+        }
+        return row.append(')').toString();
+    }
+
+    static long answer(SevenLeagues x, String name, long... values) {
+        Method method = method(name);
+        Class<?>[] types = method.getParameterTypes();
+        Object[] given = new Object[types.length];
+        for (int i = 0; i < types.length; i++) {
+            if (types[i] == boolean.class) {
+                given[i] = values[i] != 0;
+            } else if (types[i] == long.class) {
+                given[i] = values[i];
+            } else {
+                given[i] = Math.toIntExact(values[i]);
+            }
+        }
+        try {
+            return ((Number) method.invoke(x, given)).longValue();
+        } catch (IllegalAccessException | InvocationTargetException e) {
+            throw new IllegalStateException(row(name, values), e);
+        }
+    }
+
+    private static Method method(String name) {
+        for (Method m : SevenLeagues.class.getDeclaredMethods()) {
+            if (m.getName().equals(name) && Modifier.isPublic(m.getModifiers())) {
+                return m;
+            }
+        }
+        throw new IllegalArgumentException(name);
     }
 
     boolean clean() {
