@@ -17,6 +17,7 @@ public final class WayBoundsTest {
         changedAtLeast();
         changedToAndFro();
         changedNone();
+        hillsAreNoHindrance();
         timeEdges();
         timeDoesNotWrap();
         errandsOfNone();
@@ -195,6 +196,19 @@ public final class WayBoundsTest {
         due.call(x, "where one is", 2, "changed", 0, 3, 0, 4, 0);
         due.call(x, "neither BOOTS can", NONE, "changed", 0, 1, 0, 4, 0);
         due.call(x, "neither BOOTS can", NONE, "changed", 0, 1, 0, 4, 1);
+    }
+
+    /** "2 on a hill" is wear: it takes no more STRIDES, changes, MINUTES or ROUNDS. */
+    private static void hillsAreNoHindrance() {
+        SevenLeagues x = Due.on("^^^^");
+        due.call(x, "hills", 3, "far", 0, 0, 3, -1);
+        due.call(x, "hills", 3, "changed", 0, 3, 0, 3, 0);
+        due.call(x, "hills", 0, "changed", 0, 3, 0, 3, 1);
+        due.call(x, "hills", 3, "time", 0, 0, 3);
+        due.call(x, "hills", 9, "time", 2, 0, 3);
+        due.call(x, "hills", 6, "errands", 0, Due.set(3), -1);
+        due.call(x, "hills", 3, "guard", 0, 0, 2, 3, 0);
+        due.call(x, "hills wear", 6, "worn", 0, 0, 3);
     }
 
     // ---- 19 time: "S (1 to 9; 1 at first), P (1 to 9; 3 at first)"

@@ -407,6 +407,8 @@ public final class WhereBoundsTest {
         x.wipe();
         x.say('a');
         x.land(1, 1);
+        x.person(3, 0, 0);
+        x.seen(0, 0);
         x.boots(3, 0, 1);
         x.boots(3, 1, 1);
         x.minutes(0, 1);
@@ -424,7 +426,7 @@ public final class WhereBoundsTest {
         due.call(x, "kept", '~', "cell", 0);
         due.call(x, "kept", '^', "cell", 34);
         due.call(x, "kept", '.', "cell", 35);
-        // The MARK and its square: CELL 0 would fit, but it is sea.
+        // The MARK and its square, which CELL 0 alone would fit, were it no sea.
         due.call(x, "kept", 0, "where");
         x.forget();
         due.call(x, "kept", (1L << 36) - 2, "where");
@@ -445,7 +447,16 @@ public final class WhereBoundsTest {
             due.call(x, "SIGHTS", 0, "told", 7);
             due.call(x, "the smaller LAND", UNKNOWN, "cell", 16);
             due.call(x, "the smaller LAND", 65535, "where");
+            due.call(x, "the smaller LAND", Due.set(1, 4, 6, 9), "leads", 0, 5);
         }
+        x.seen(5, 1);
+        x.seen(0, 1);
+        x.image(0);
+        x.forget();
+        x.seen(15, 0);
+        x.seen(15, 0);
+        x.restore(0);
+        due.call(x, "SIGHTS as they were", Due.set(1, 4), "where");
         x.home(9);
         x.image(1);
         x.restore(0);
